@@ -59,6 +59,17 @@ public final class Promise09SumTest {
         one.date(5, 1);
         one.sum(0, 0);
         Check.is("the unit is no bound", one.weight(1, 0), 2);
+
+        CurveSums edge = new CurveSums(8, 62500);
+        edge.curve(0, 5, 1);
+        edge.date(5, 1);
+        for (int date = 0; date < 4; date++) {
+            edge.sum(date, date);
+        }
+        edge.date(25, 1);
+        Check.is("2, 400: 62500 * 4 / 161604", edge.weight(5, 0), 1);
+        Check.is("1000001 may not", edge.sum(4, 5), N);
+        Check.is("dates", edge.count(3), 6);
         Check.end();
     }
 }

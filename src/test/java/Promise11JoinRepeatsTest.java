@@ -84,6 +84,16 @@ public final class Promise11JoinRepeatsTest {
         z.curve(0, 10, 1);
         z.joinRepeats(6, 7);
         Check.is("is rounded down", z.weight(9, 0), 65536);
+
+        CurveSums near = new CurveSums(8, 65536);
+        near.curve(0, 7, 1);
+        near.date(0, 10);
+        near.sum(0, 0);
+        Check.is("of two equal ones, one not measured", near.joinRepeats(0, 1), N);
+        Check.is("of two equal ones, one not measured", near.joinRepeats(1, 0), N);
+        near.date(10, 3);
+        Check.is("9 / 2 is 4, its root 2", near.joinRepeats(2, 2), 3);
+        Check.is("4 and 1, 9: 65536 * 25 / 196", near.weight(3, 0), 8359);
         Check.end();
     }
 }

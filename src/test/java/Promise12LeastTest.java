@@ -63,6 +63,22 @@ public final class Promise12LeastTest {
         Check.is("the last", great.span(29, 1), 58);
         Check.is("fifteen of them", great.least(4, 1, 2), 15);
         Check.is("fifteen of them", great.span(14, 0), 28);
+
+        CurveSums ones = new CurveSums(8, 1);
+        for (int year = 2; year < 5; year++) {
+            ones.curve(year, 5, 1);
+        }
+        ones.date(5, 1);
+        Check.is("one of three has less than two of five", ones.least(0, 2, 5), 1);
+        Check.same("so two are due", Check.spansOf(ones), " spans 2-3");
+        ones.least(0, 1, 3);
+        Check.same("one of three has one of three", Check.spansOf(ones), " spans 2-2");
+        ones.least(0, 667, 1000);
+        Check.same("two of three have less", Check.spansOf(ones), " spans 2-4");
+
+        CurveSums whole = Check.withDistances(0, 1, 2, 3, 4, 3, 2, 1);
+        Check.is("all years", whole.least(0, 1, 1), 1);
+        Check.same("all years", Check.spansOf(whole), " spans 0-7");
         Check.end();
     }
 }

@@ -42,6 +42,18 @@ public final class Promise18UnitTest {
         Check.noState("101", () -> x.unit(0x20202020, 32));
         Check.is("nothing came of it", x.count(5), 96);
         Check.is("100 may be", x.unit(0x20202020, 0), 100);
+
+        for (int shift = 0; shift < 32; shift += 8) {
+            CurveSums y = new CurveSums(8, 1);
+            for (int signs = 0; signs < 96; signs += 8) {
+                y.unit(0x21212121, 0x7e7e7e7e);
+            }
+            y.unit(0x212121, 0);
+            int one = 33 << shift;
+            Check.is("the hundredth, " + one, y.unit(shift < 16 ? one : 0, shift < 16 ? 0 : one), 100);
+            Check.noState("one more, " + one, () -> y.unit(one, 0));
+            Check.noState("one more in b, " + one, () -> y.unit(0, one));
+        }
         Check.end();
     }
 }

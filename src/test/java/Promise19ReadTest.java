@@ -56,6 +56,14 @@ public final class Promise19ReadTest {
         Check.is("rows", full.count(6), 11);
         Check.is("a full pad that ends too early", Check.read(full, rows + "5:1+1;5:1+"), -101);
         Check.is("a full pad that is wrong at its end", Check.read(full, rows + "59:3000+1+"), -1 - 99);
+
+        CurveSums four = new CurveSums(8, 65536);
+        Check.is("four rows", Check.read(four, "3:100+4;0:100+1;2:100+3;1:110+2"), 4);
+        four.date(110, 1);
+        int[] due = {25, 65536, 541, 1383};
+        for (int year = 0; year < 4; year++) {
+            Check.is("each with its own age and spread", four.weight(0, year), due[year]);
+        }
         Check.end();
     }
 }
