@@ -1,8 +1,17 @@
-/** What the tests share: comparing answers, and ending with 1 if one was wrong. */
+import java.util.function.Consumer;
+import java.util.function.Supplier;
+
+/** What the tests share: comparing answers, refused calls, and ending with 1 if one answer was wrong. */
 final class Check {
     private static int wrong = 0;
+    private static String sentence = "";
 
     private Check() {
+    }
+
+    /** The sentence of the document that the next answers are due by. */
+    static void says(String words) {
+        sentence = words;
     }
 
     static void is(String call, long got, long due) {
@@ -23,16 +32,34 @@ final class Check {
         }
     }
 
-    static void noIndex(String call, Runnable run) {
-        fails(call, IndexOutOfBoundsException.class, run);
+    /** A date's weights, year by year from year 0 on. */
+    static void weights(CurveSums x, int date, int... due) {
+        for (int year = 0; year < due.length; year++) {
+            is("weight(" + date + ", " + year + ")", x.weight(date, year), due[year]);
+        }
     }
 
-    static void noArgument(String call, Runnable run) {
-        fails(call, IllegalArgumentException.class, run);
+    /** The row's sums, year by year from year 0 on. */
+    static void slids(CurveSums x, int... due) {
+        for (int year = 0; year < due.length; year++) {
+            is("slid(" + year + ")", x.slid(year), due[year]);
+        }
     }
 
-    static void noState(String call, Runnable run) {
-        fails(call, IllegalStateException.class, run);
+    static void noIndex(String call, Supplier<CurveSums> made, Consumer<CurveSums> run) {
+        refuses(call, IndexOutOfBoundsException.class, made, run);
+    }
+
+    static void noArgument(String call, Supplier<CurveSums> made, Consumer<CurveSums> run) {
+        refuses(call, IllegalArgumentException.class, made, run);
+    }
+
+    static void noState(String call, Supplier<CurveSums> made, Consumer<CurveSums> run) {
+        refuses(call, IllegalStateException.class, made, run);
+    }
+
+    private static void refuses(String call, Class<?> due, Supplier<CurveSums> made, Consumer<CurveSums> run) {
+        changesNothing(call, made, x -> fails(call, due, () -> run.accept(x)));
     }
 
     // The very class: a class below it would be one that the machine throws by itself.
@@ -48,77 +75,22 @@ final class Check {
         tell(call + " threw nothing, due is " + due.getName());
     }
 
-    /** All that can be asked without changing the object. */
-    static String stateOf(CurveSums x) {
-        StringBuilder state = new StringBuilder("counts");
-        for (int what = 0; what <= 6; what++) {
-            state.append(' ').append(x.count(what));
-        }
-        for (int date = 0; date < x.count(3); date++) {
-            state.append(" date").append(date).append('=').append(x.total(date)).append(" of");
-            for (int year = 0; year < x.count(0); year++) {
-                state.append(' ').append(x.weight(date, year));
-            }
-        }
-        state.append(" slid");
-        for (int year = 0; year < x.count(0); year++) {
-            state.append(' ').append(x.slid(year));
-        }
-        return state.append(" wiggle ").append(x.wiggle()).append(spansOf(x)).toString();
+    /** Of two objects that were made alike one has the call and one has not: all that they tell later is the same. */
+    static void changesNothing(String call, Supplier<CurveSums> made, Consumer<CurveSums> run) {
+        CurveSums with = made.get();
+        CurveSums without = made.get();
+        run.accept(with);
+        same(call + " changed the object", Reveal.all(with), Reveal.all(without));
     }
 
-    static String spansOf(CurveSums x) {
-        StringBuilder spans = new StringBuilder(" spans");
-        for (int k = 0; k < 60; k++) {
-            try {
-                spans.append(" " + x.span(k, 0) + "-" + x.span(k, 1));
-            } catch (IndexOutOfBoundsException e) {
-                break;
-            }
-        }
-        return spans.toString();
-    }
-
-    /** Brings a text to the pad, up to eight signs a call. */
-    static int write(CurveSums x, String text) {
-        int signs = x.count(5);
-        for (int from = 0; from < text.length(); from += 8) {
-            signs = x.unit(four(text, from), four(text, from + 4));
-        }
-        return signs;
-    }
-
-    private static int four(String text, int from) {
-        int packed = 0;
-        for (int i = 0; i < 4 && from + i < text.length(); i++) {
-            packed |= text.charAt(from + i) << (8 * i);
-        }
-        return packed;
-    }
-
-    static int read(CurveSums x, String text) {
-        write(x, text);
-        return x.read();
-    }
-
-    /**
-     * An object with the unit 900 and date 0, whose weight in a year is 900, 400, 100, 29 or 11 for 0, 1, 2, 3
-     * or 4 years between its age and the row's, and 0 where NONE stands: no row.
-     */
-    static CurveSums withDistances(int... distances) {
-        CurveSums x = new CurveSums(distances.length, 900);
-        for (int year = 0; year < distances.length; year++) {
-            if (distances[year] != CurveSums.NONE) {
-                x.curve(year, 1000 + distances[year], 1);
-            }
-        }
-        x.date(1000, 1);
-        return x;
+    /** Numbers that are not least .. most; the third has low bits that are. */
+    static int[] beyond(int least, int most) {
+        return new int[] {least - 1, most + 1, least + 65536, Integer.MIN_VALUE, Integer.MAX_VALUE};
     }
 
     private static void tell(String text) {
         wrong++;
-        System.out.println(text);
+        System.out.println(sentence.isEmpty() ? text : text + " (\"" + sentence + "\")");
     }
 
     static void end() {

@@ -3,47 +3,105 @@ public final class Promise15SlidTest {
     private static final int N = CurveSums.NONE;
 
     public static void main(String[] args) {
-        CurveSums x = Check.withDistances(0, 1, 2, 3, 4, N, 1, 0);
-        // 900 400 100 29 11 0 400 900
-        for (int year = 0; year < 8; year++) {
-            Check.is("slid of an empty row", x.slid(year), 0);
-        }
-        x.gap(0, 0);
-        for (int year = 0; year < 8; year++) {
-            Check.is("slid of a date without a gap", x.slid(year), x.weight(0, year));
-        }
-        x.date(1001, 1);
-        // 400 900 400 100 29 0 900 400
-        x.gap(1, 2);
-        int[] two = {900 + 400, 400 + 100, 100 + 29, 29 + 0, 11 + 900, 0 + 400, 400, 900};
-        for (int year = 0; year < 8; year++) {
-            Check.is("slid(" + year + ") of two", x.slid(year), two[year]);
-        }
-        x.gap(0, 7);
-        Check.is("the last year", x.slid(0), two[0] + 900);
-        Check.is("behind the last year", x.slid(1), two[1]);
-        x.gap(0, 8);
-        x.gap(0, 59);
-        Check.is("far behind it", x.slid(0), two[0] + 900);
-        x.gap(0, 0);
-        Check.is("one twice", x.slid(0), two[0] + 900 + 900);
-        x.curve(0, 1, 1);
-        Check.is("a curve changes no sum", x.slid(0), two[0] + 900 + 900);
-        for (int year : new int[] {-1, 8, 60, Integer.MIN_VALUE, Integer.MAX_VALUE}) {
-            Check.noIndex("slid(" + year + ")", () -> x.slid(year));
-        }
-
-        CurveSums great = new CurveSums(60, 62500);
-        great.curve(59, 5, 1);
-        great.date(5, 1);
-        for (int date = 0; date < 4; date++) {
-            great.sum(date, date);
-        }
-        for (int i = 0; i < 8; i++) {
-            great.gap(4, 59);
-        }
-        Check.is("the greatest sum", great.slid(0), 8000000);
-        Check.is("behind the last year", great.slid(1), 0);
+        addsTheWeightsThatAreLaterByTheGaps();
+        isZeroForAnEmptyRow();
+        isZeroBehindTheLastYear();
+        hasTheLastYear();
+        doesNotTurnRoundToTheFirstYear();
+        staysWhenTheCurveChanges();
+        holdsTheGreatestWeights();
+        refusesOtherYears();
+        changesNothing();
         Check.end();
+    }
+
+    /** Dates 0 and 1 have 900 400 100 29 11 0 400 900 and 400 900 400 100 29 0 900 400. */
+    private static CurveSums withTwo() {
+        CurveSums x = Sample.withDistances(0, 1, 2, 3, 4, N, 1, 0);
+        x.date(1001, 1);
+        return x;
+    }
+
+    private static void addsTheWeightsThatAreLaterByTheGaps() {
+        Check.says("each date's weight in the year that is later by its gap");
+        CurveSums x = withTwo();
+        x.gap(0, 0);
+        Check.slids(x, 900, 400, 100, 29, 11, 0, 400, 900);
+        x.gap(1, 2);
+        Check.slids(x, 1300, 500, 129, 29, 911, 400, 400, 900);
+        x.gap(1, 0);
+        Check.slids(x, 1700, 1400, 529, 129, 940, 400, 1300, 1300);
+    }
+
+    private static void isZeroForAnEmptyRow() {
+        Check.says("The row's sum at a year.");
+        CurveSums x = withTwo();
+        Check.slids(x, 0, 0, 0, 0, 0, 0, 0, 0);
+        x.gap(0, 0);
+        x.clear();
+        Check.slids(x, 0, 0, 0, 0, 0, 0, 0, 0);
+    }
+
+    private static void isZeroBehindTheLastYear() {
+        Check.says("(0 behind the last year)");
+        CurveSums x = withTwo();
+        x.gap(0, 8);
+        x.gap(0, 9);
+        x.gap(1, 59);
+        Check.slids(x, 0, 0, 0, 0, 0, 0, 0, 0);
+        x.gap(0, 6);
+        Check.slids(x, 400, 900, 0, 0, 0, 0, 0, 0);
+    }
+
+    private static void hasTheLastYear() {
+        Check.says("(0 behind the last year)");
+        CurveSums x = withTwo();
+        x.gap(0, 7);
+        Check.slids(x, 900, 0, 0, 0, 0, 0, 0, 0);
+        CurveSums y = withTwo();
+        y.gap(1, 0);
+        Check.is("slid(7) without a gap", y.slid(7), 400);
+    }
+
+    private static void doesNotTurnRoundToTheFirstYear() {
+        Check.says("(0 behind the last year)");
+        CurveSums x = withTwo();
+        x.gap(0, 1);
+        Check.slids(x, 400, 100, 29, 11, 0, 400, 900, 0);
+    }
+
+    private static void staysWhenTheCurveChanges() {
+        Check.says("a WEIGHT for each year that stays as it was when they were told");
+        CurveSums x = withTwo();
+        x.gap(0, 0);
+        x.curve(0, 1, 1);
+        x.edition();
+        x.reservoir(5, 5);
+        Check.slids(x, 900, 400, 100, 29, 11, 0, 400, 900);
+    }
+
+    private static void holdsTheGreatestWeights() {
+        Check.says("The row's sum at a year.");
+        CurveSums x = Sample.withGreatWeights(60, 59);
+        for (int i = 0; i < 8; i++) {
+            x.gap(4, 59);
+        }
+        Check.is("eight weights of 1000000", x.slid(0), 8000000);
+        Check.is("behind the last year", x.slid(1), 0);
+        Check.is("far behind it", x.slid(59), 0);
+    }
+
+    private static void refusesOtherYears() {
+        Check.says("IndexOutOfBoundsException: there is no such year");
+        for (int year : Check.beyond(0, 7)) {
+            Check.noIndex("slid(" + year + ")", Sample::busy, x -> x.slid(year));
+            Check.noIndex("slid(" + year + ") of an empty row", Sample::fresh, x -> x.slid(year));
+            Check.noIndex("slid(" + year + ") of a full row", Sample::withEightInRow, x -> x.slid(year));
+        }
+        Check.noIndex("slid(60) of sixty", () -> new CurveSums(60, 1), x -> x.slid(60));
+    }
+
+    private static void changesNothing() {
+        Check.changesNothing("slid(3)", Sample::busy, x -> x.slid(3));
     }
 }
