@@ -162,8 +162,12 @@ public final class Promise18UnitTest {
         Check.is("the ninety-ninth", x.unit(32, 0), 99);
         Check.is("the hundredth", x.unit(32 << 24, 0), 100);
         Check.is("signs", x.count(5), 100);
-        CurveSums y = withSigns(99);
-        Check.is("the hundredth of b", y.unit(0, 32 << 24), 100);
+        for (int shift = 0; shift < 32; shift += 8) {
+            for (int sign : new int[] {32, 33, 125, 126}) {
+                Check.is("the hundredth of a", withSigns(99).unit(sign << shift, 0), 100);
+                Check.is("the hundredth of b", withSigns(99).unit(0, sign << shift), 100);
+            }
+        }
     }
 
     private static void hasAHundredBySeveralAtOnce() {
