@@ -23,7 +23,7 @@ public final class Promise01NewObjectTest {
     }
 
     private static void yearsComeWithinTheirBounds() {
-        Check.says("8 .. 60 of them (what is given below or above that counts as the least or the greatest)");
+        Check.says("8 .. 60 of them .. (what is given below or above that counts as the least or the greatest)");
         int[][] years = {{Integer.MIN_VALUE, 8}, {-1, 8}, {0, 8}, {7, 8}, {8, 8}, {9, 9}, {59, 59}, {60, 60}, {61, 60},
             {65544, 60}, {Integer.MAX_VALUE, 60}};
         for (int[] pair : years) {

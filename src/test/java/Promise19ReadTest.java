@@ -11,6 +11,7 @@ public final class Promise19ReadTest {
         readsOneRow();
         readsAFullPad();
         isWrongAtTheFirstSignThatNoTextHas();
+        isWrongWithoutASignBetweenTwoRows();
         isWrongAtTheSignBehindAZeroAhead();
         isWrongAtTheSignThatMakesAYearTooGreat();
         isWrongAtTheSignThatMakesAnAgeTooGreat();
@@ -155,6 +156,16 @@ public final class Promise19ReadTest {
         isWrongAt(6, "5:1+1;;", "5:1+1;:", "5:1+1;+", "5:1+1; ", "5:1+1;x");
         isWrongAt(11, "5:3000+100;x", "5:3000+100; 5:1+1");
         isWrongAt(10, "5:3000+100+", "5:3000+100:", "5:3000+100 ");
+    }
+
+    private static void isWrongWithoutASignBetweenTwoRows() {
+        Check.says("\";\" between two");
+        isRead("5:1+1;5:1+1", 2);
+        isWrongAt(6, "5:1+15:1+1");
+        isWrongAt(5, "5:1+1 5:1+1", "5:1+1,5:1+1");
+        isWrongAt(6, "5:1+1;;5:1+1");
+        isWrongAt(0, ";5:1+1");
+        isWrongAt(6, "5:1+1;");
     }
 
     private static void isWrongAtTheSignBehindAZeroAhead() {
